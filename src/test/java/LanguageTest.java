@@ -1,0 +1,128 @@
+import java.lang.reflect.Constructor;
+import java.lang.reflect.Field;
+import java.lang.reflect.Method;
+import java.lang.reflect.Modifier;
+import java.nio.file.Files;
+import java.nio.file.Path;
+import java.util.Arrays;
+import java.util.Set;
+import java.util.TreeSet;
+import java.util.regex.Matcher;
+import java.util.regex.Pattern;
+
+/** The face that the document tells, and what of LANGUAGE.md's rules shows in the class or in its text. */
+public final class LanguageTest {
+    private static final String FACE = """
+            ahead(int,int,int) again(int,int) bestCut(int,int,int,int) copy(int,int,int,int,int) count(int)
+            cut(int,int,int) days(int) deed(int,int) does(int,int,int) done(int,int,int,int,int) drift(int) drop(int)
+            film(int,int,int,int,int,int) image() item(int,int,int,long) luck(int,int,int) mend(int) of(int,int)
+            own(int,int,int) person(int,int) restore() rule(int,int) seed(int) sheet(int,int,int) showsAhead(int,int,int)
+            suit(int) tries(int,int,int) type(int) undo() wardrobe() warrant(int) wear(int) wedding(int,int,int,int)
+            """;
+    private static final String CONSTANTS =
+            "BAD=-1 CAST=-12 FULL=-3 INDEX=-13 NONE=-4 NOT=-2 NULL=-11 SIZE=-14";
+    private static final String[] FORBIDDEN = {
+        "\\bimport\\b", "\\bpackage\\b", "->", "::", "\\btry\\b", "\\bcatch\\b", "\\bfinally\\b", "\\bthrow",
+        "\\bsynchronized\\b", "\\bassert\\b", "\\bObject\\b", "\\binstanceof\\b", "Exact\\(", "\\bdouble\\b",
+        "\\bfloat\\b", "\\bvar\\b", "\\bSystem\\.(?!arraycopy)", "\\bprotected\\b", "while \\(true\\)", "[^\\x00-\\x7e]",
+    };
+    private static int wrong;
+
+    private LanguageTest() {
+    }
+
+    public static void main(String[] args) throws Exception {
+        face();
+        constants();
+        members();
+        for (Class<?> inside : TailorTape.class.getDeclaredClasses()) {
+            nested(inside);
+        }
+        text(Files.readString(Path.of("src/main/java/TailorTape.java")));
+        System.out.println(wrong == 0 ? "LanguageTest: all rules are kept" : wrong + " rules are not kept");
+        if (wrong != 0) {
+            System.exit(1);
+        }
+    }
+
+    private static void rule(boolean isKept, String what) {
+        if (!isKept) {
+            wrong++;
+            System.out.println(what);
+        }
+    }
+
+    private static void face() {
+        Set<String> got = new TreeSet<>();
+        for (Method m : TailorTape.class.getDeclaredMethods()) {
+            if (Modifier.isPublic(m.getModifiers())) {
+                rule(m.getReturnType() == int.class && !Modifier.isStatic(m.getModifiers()), m + " is not as told");
+                String types = Arrays.toString(m.getParameterTypes());
+                got.add(m.getName() + "(" + types.substring(1, types.length() - 1).replace(" ", "") + ")");
+            }
+        }
+        Set<String> want = new TreeSet<>(Arrays.asList(FACE.trim().split("\\s+")));
+        rule(want.size() == 33 && got.equals(want), "the face is " + got);
+    }
+
+    private static void constants() throws IllegalAccessException {
+        Set<String> got = new TreeSet<>();
+        for (Field f : TailorTape.class.getFields()) {
+            rule(f.getType() == int.class && Modifier.isStatic(f.getModifiers()) && Modifier.isFinal(f.getModifiers()),
+                    f + " is no constant");
+            got.add(f.getName() + "=" + f.getInt(null));
+        }
+        rule(String.join(" ", got).equals(CONSTANTS), "the constants are " + got);
+    }
+
+    private static void members() {
+        rule(Modifier.isFinal(TailorTape.class.getModifiers()), "the class is not final");
+        Constructor<?>[] constructors = TailorTape.class.getDeclaredConstructors();
+        rule(constructors.length == 1 && Modifier.isPublic(constructors[0].getModifiers())
+                && constructors[0].getParameterCount() == 0, "the constructor is not as told");
+        for (Field f : TailorTape.class.getDeclaredFields()) {
+            rule(Modifier.isPublic(f.getModifiers()) || Modifier.isPrivate(f.getModifiers()), f + " can be seen");
+        }
+        methods(TailorTape.class);
+        rule(TailorTape.class.getDeclaredClasses().length <= 11, "too many classes");
+    }
+
+    private static void methods(Class<?> of) {
+        for (Method m : of.getDeclaredMethods()) {
+            boolean isFace = of == TailorTape.class && Modifier.isPublic(m.getModifiers());
+            rule(isFace || of != TailorTape.class || Modifier.isPrivate(m.getModifiers()), m + " can be seen");
+            rule(isFace || !FACE.matches("(?s)(.*\\s)?" + m.getName() + "\\(.*"), m + " bears a public name");
+            rule(m.getParameterCount() <= 7, m + " takes too much");
+        }
+    }
+
+    private static void nested(Class<?> inside) {
+        rule(Modifier.isStatic(inside.getModifiers()), inside + " is not static");
+        int fields = 0;
+        for (Field f : inside.getDeclaredFields()) {
+            boolean isStatic = Modifier.isStatic(f.getModifiers());
+            rule(!isStatic || Modifier.isFinal(f.getModifiers()), f + " is static and not final");
+            fields += isStatic ? 0 : 1;
+        }
+        rule(fields <= 20, inside + " has too many fields");
+        methods(inside);
+    }
+
+    private static void text(String source) {
+        String code = source.replaceAll("(?s)/\\*.*?\\*/", " ").replaceAll("//[^\n]*", " ");
+        for (String forbidden : FORBIDDEN) {
+            Matcher found = Pattern.compile(forbidden).matcher(code);
+            rule(!found.find(), "the text has " + forbidden);
+        }
+        int line = 0;
+        int from = 0;
+        for (String s : source.split("\n")) {
+            line++;
+            if (s.matches("( {4}| {8})(public|private|static|int|boolean|void|long)\\b.*\\) \\{")) {
+                from = line;
+            }
+            rule(!s.matches("( {4}| {8})\\}") || line - from <= 62 || from == 0, "a long method ends in line " + line);
+            from = s.matches("( {4}| {8})\\}") ? 0 : from;
+        }
+    }
+}
