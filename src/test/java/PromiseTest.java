@@ -77,6 +77,16 @@ public final class PromiseTest {
         return x;
     }
 
+    /** One whose sleeve is 51 today and 50 tomorrow; a suit that fits tomorrow alone. */
+    private static TailorTape tomorrow() {
+        TailorTape x = one(PLAIN);
+        x.suit(50);
+        x.rule(0, 1);
+        x.rule(1, 0);
+        x.does(0, THEFT, 1);
+        return x;
+    }
+
     private static void row(TailorTape x, int sheet, int lane, int from, long... items) {
         for (int k = 0; k < items.length; k++) {
             due("item " + (from + k), x.item(sheet, lane, from + k, items[k]), 1);
@@ -187,6 +197,7 @@ public final class PromiseTest {
         due("kind", x.of(1, 8), WIDOW);
         due("deeds of 0", x.of(0, 9), 5);
         due("deeds of 1", x.of(1, 9), 2);
+        measures(tomorrow(), 0, 51, 50, 50, 50);
         due("what 10", x.of(0, 10), BAD);
         due("what -1", x.of(0, -1), BAD);
         due("person 2", x.of(2, 0), BAD);
@@ -283,6 +294,16 @@ public final class PromiseTest {
         due("grown into it", x.tries(0, 0, 0), 2);
         x.rule(1, 0);
         due("no ease", x.tries(0, 0, 1), 0);
+        due("shows today", tomorrow().tries(0, 0, 0), 1);
+        due("fits tomorrow alone", tomorrow().tries(0, 0, 1), 0);
+        TailorTape two = one(PLAIN);
+        two.person(PLAIN, 20);
+        two.suit(50);
+        two.suit(90);
+        due("of the first alone", two.tries(0, 0, 0), 0);
+        due("the first alone", two.tries(0, 0, 1), 1);
+        due("the other one", two.tries(1, 0, 0), 120);
+        due("the other suit", two.tries(0, 1, 0), 160);
         due("what 2", x.tries(0, 0, 2), BAD);
         due("what -1", x.tries(0, 0, -1), BAD);
         due("person 1", x.tries(1, 0, 0), BAD);
@@ -501,6 +522,10 @@ public final class PromiseTest {
             driftLikeThis(seed * 7123457 & MOST, 1 + seed % 5, 1 + seed % 99);
         }
         TailorTape x = new TailorTape();
+        TailorTape busy = one(PLAIN);
+        busy.does(0, LIE, 1);
+        int made = busy.drift(4);
+        due("those before do not count", busy.count(2), 1 + made);
         due("nobody does a thing", x.drift(99), 0);
         due("the day", x.count(3), 99);
         long draw = 1;
@@ -563,9 +588,28 @@ public final class PromiseTest {
         }
         due("none more", x.undo(), NONE);
         due("older ones are lost", x.count(3), 91);
+        undoOfMended();
         undoOfWhatIsTold();
         undoOfDrift();
         whatLeavesNothingToUndo();
+    }
+
+    private static void undoOfMended() {
+        TailorTape x = one(PLAIN);
+        x.does(0, THEFT, 5);
+        x.does(0, THEFT, 5);
+        x.does(0, THEFT, 5);
+        x.mend(1);
+        x.mend(0);
+        x.mend(2);
+        due("all three", x.count(6), 7);
+        x.undo();
+        due("two", x.count(6), 3);
+        x.undo();
+        due("one", x.count(6), 2);
+        x.undo();
+        due("none", x.count(6), 0);
+        due("three deeds", x.count(2), 3);
     }
 
     private static void undoOfWhatIsTold() {
@@ -820,10 +864,14 @@ public final class PromiseTest {
         due("0", x.wear(0), 0);
         due("1", x.wear(1), 2);
         due("3", x.wear(3), 1);
+        due("not yet", tomorrow().wear(NONE), 0);
         due("4", x.wear(4), BAD);
         due("-1", x.wear(-1), BAD);
         due("-5", x.wear(-5), BAD);
         due("MOST", x.wear(MOST), BAD);
+        due("fewer come", tapes(x, "5;p50.50.50.50;90.90.90.90"), 1);
+        due("and nothing fits", x.wear(NONE), 0);
+        due("not one", x.wear(0), NONE);
         x = new TailorTape();
         x.suit(50);
         for (int k = 0; k < 5; k++) {
@@ -860,6 +908,11 @@ public final class PromiseTest {
         x.cut(0, 3, 51);
         due("without ease, above", x.luck(0, 0, 0), 1);
         due("without ease, below", x.luck(0, 0, 1), 81);
+        due("today, above", tomorrow().luck(0, 0, 0), 1);
+        due("today, below", tomorrow().luck(0, 0, 1), 81);
+        x.does(0, SLOTH, 2);
+        due("far off, above", x.luck(0, 0, 0), 0);
+        due("today still there", tomorrow().warrant(1), 1);
         due("what 2", x.luck(0, 0, 2), BAD);
         due("what -1", x.luck(0, 0, -1), BAD);
         due("person 1", x.luck(1, 0, 0), BAD);
@@ -886,6 +939,12 @@ public final class PromiseTest {
         due("any measure", x.warrant(5), 1 + 2 + 4);
         x.days(99);
         due("all is faded", x.warrant(1), 0);
+        for (int sort = 0; sort < 5; sort++) {
+            x = one(PLAIN);
+            x.does(0, sort, 3);
+            due("of sort " + sort, x.warrant(3), 1);
+            due("no more of sort " + sort, x.warrant(4), 0);
+        }
         due("by 0", x.warrant(0), BAD);
         due("by -1", x.warrant(-1), BAD);
         due("by 100", x.warrant(100), BAD);
@@ -949,11 +1008,49 @@ public final class PromiseTest {
         due("none", x.count(2), 0);
         due("restore again", x.restore(), 1);
         due("deeds again", x.count(2), 2);
+        x.restore();
+        for (int k = 0; k < 5; k++) {
+            x.undo();
+        }
+        x.rule(1, 9);
+        x.days(50);
+        for (int k = 0; k < 10; k++) {
+            x.does(0, SLOTH, 1);
+        }
+        x.restore();
+        int[][] deeds = {{0, THEFT, 9, 0, 0, 9}, {0, LIE, 8, 0, 1, 4}};
+        for (int d = 0; d < 2; d++) {
+            for (int k = 0; k < 6; k++) {
+                due("deed(" + d + ", " + k + ")", x.deed(d, k), deeds[d][k]);
+            }
+        }
+        due("ease", x.count(5), 4);
+        due("undone once", x.undo(), 4);
+        due("day 1", x.count(3), 1);
+        due("undone twice", x.undo(), 3);
+        due("day 0", x.count(3), 0);
+        due("mended still", x.count(6), 2);
+        x.restore();
         x.person(TALL, 40);
         due("a later image", x.image(), 1);
         x.person(TALL, 40);
         due("restore that", x.restore(), 1);
         due("two people", x.count(0), 2);
+        x = one(PLAIN);
+        x.person(PLAIN, 60);
+        x.does(1, LIE, 1);
+        x.days(1);
+        x.does(0, THEFT, 1);
+        x.image();
+        x.undo();
+        x.undo();
+        x.undo();
+        x.does(0, GREED, 1);
+        x.does(1, GREED, 1);
+        x.restore();
+        due("who did the first", x.deed(0, 0), 1);
+        due("who did the second", x.deed(1, 0), 0);
+        due("when the second was done", x.deed(1, 3), 1);
     }
 
     private static void promise29Done() {
