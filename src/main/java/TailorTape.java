@@ -965,7 +965,6 @@ public final class TailorTape {
         int readAll() {
             at = 0;
             fault = NO_FAULT;
-            people = 0;
             suits = 0;
             fade = readNumber(1, MOST_FADE);
             expect(';');

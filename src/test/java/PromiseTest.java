@@ -384,6 +384,15 @@ public final class PromiseTest {
         due("cut with noughts", x.cut(0, 3, 0), 7);
         due("three digits of fade", tapes(x, "009;p010.099.10.10"), 1);
         due("fade", x.count(4), 9);
+        String four = "100.100.100.100";
+        String tail = ";" + four + "," + four + "," + four + "," + four;
+        String head = "7;p10.10.10.10";
+        due("a full tape to its last digit", tapes(x, head + " ".repeat(130 - 14 - tail.length()) + tail), 1);
+        due("four suits of it", x.count(1), 4);
+        due("a full tape with blanks behind", tapes(x, head + " ".repeat(130 - 14)), 1);
+        due("what was behind is forgotten", tapes(x, "5"), -21);
+        due("a full tape that lacks all", tapes(x, " ".repeat(130)), -150);
+        due("a full tape that lacks a letter", tapes(x, " ".repeat(130 - 11) + "5;p10.10.10"), -150);
     }
 
     private static void promise11Faults() {
@@ -910,9 +919,12 @@ public final class PromiseTest {
         due("without ease, below", x.luck(0, 0, 1), 81);
         due("today, above", tomorrow().luck(0, 0, 0), 1);
         due("today, below", tomorrow().luck(0, 0, 1), 81);
+        TailorTape easy = tomorrow();
+        easy.rule(1, 1);
+        due("two of three today, above", easy.luck(0, 0, 0), 2);
+        due("two of three today, below", easy.luck(0, 0, 1), 3);
         x.does(0, SLOTH, 2);
         due("far off, above", x.luck(0, 0, 0), 0);
-        due("today still there", tomorrow().warrant(1), 1);
         due("what 2", x.luck(0, 0, 2), BAD);
         due("what -1", x.luck(0, 0, -1), BAD);
         due("person 1", x.luck(1, 0, 0), BAD);
@@ -939,6 +951,7 @@ public final class PromiseTest {
         due("any measure", x.warrant(5), 1 + 2 + 4);
         x.days(99);
         due("all is faded", x.warrant(1), 0);
+        due("today, not tomorrow", tomorrow().warrant(1), 1);
         for (int sort = 0; sort < 5; sort++) {
             x = one(PLAIN);
             x.does(0, sort, 3);
