@@ -281,6 +281,7 @@ public final class TailorTape {
         if (person != NONE && !shop.hasPerson(person)) {
             return BAD;
         }
+        foresight.findFitting();
         foresight.matchSuits();
         return person == NONE ? foresight.mostDressed() : foresight.suitOf(person);
     }
@@ -444,38 +445,36 @@ public final class TailorTape {
     // ---- by how much a DEED makes a MEASURE longer
 
     private static int longer(int kind, int sort, int measure, int left) {
-        switch (kind) {
-            case TALL:
-                return longerIfTall(sort, measure, left);
-            case SEATED:
-                return longerIfSeated(sort, measure, left);
-            case WIDOW:
-                return Math.max(0, longerIfTall(sort, measure, left) - 2);
-            case SAINT:
-                return longerIfSeated(sort, measure, left) / 2;
-            default:
-                return longerIfPlain(sort, measure, left);
-        }
-    }
-
-    private static int longerIfPlain(int sort, int measure, int left) {
-        if (!within(sort, 0, SORTS - 1)) {
+        int times = timesShown(kind, sort, measure);
+        if (times < 1 || left < 1) {
             return 0;
         }
-        return (SHOWN_ON[sort] >> measure & 1) == 1 ? left : 0;
+        switch (kind) {
+            case TALL:
+                return left + 1;
+            case WIDOW:
+                // 2 less than TALL, and never below 0, as something is LEFT here
+                return left - 1;
+            case SAINT:
+                return times * left / 2;
+            default:
+                return times * left;
+        }
     }
 
-    private static int longerIfTall(int sort, int measure, int left) {
-        int plain = longerIfPlain(sort, measure, left);
-        return plain > 0 ? plain + 1 : 0;
-    }
-
-    private static int longerIfSeated(int sort, int measure, int left) {
+    /** How often what is LEFT shows on a MEASURE: of a TREASON twice on the SEAT of who has no SLEEVE to show it. */
+    private static int timesShown(int kind, int sort, int measure) {
+        if (sort < 0 || sort >= SHOWN_ON.length) {
+            return 0;
+        }
+        int times = SHOWN_ON[sort] >> measure & 1;
+        if (kind != SEATED && kind != SAINT) {
+            return times;
+        }
         if (measure == SLEEVE) {
             return 0;
         }
-        int plain = longerIfPlain(sort, measure, left);
-        return measure == SEAT ? plain + longerIfPlain(sort, SLEEVE, left) : plain;
+        return measure == SEAT ? times + (SHOWN_ON[sort] >> SLEEVE & 1) : times;
     }
 
     /** All that an IMAGE keeps; two of them are made once, so that an IMAGE costs no new object. */
@@ -572,15 +571,11 @@ public final class TailorTape {
             return all;
         }
 
-        int longerBy(int deed, int measure, int n, boolean isMended) {
-            return longer(kinds[doers[deed]], sorts[deed], measure, leftBehind(deed, n, isMended));
-        }
-
         int longerBehind(int person, int measure, int n) {
             int all = 0;
             for (int d = 0; d < deeds; d++) {
                 if (doers[d] == person) {
-                    all += longerBy(d, measure, n, isMended(d));
+                    all += longer(kinds[person], sorts[d], measure, leftBehind(d, n, isMended(d)));
                 }
             }
             return all;
@@ -592,7 +587,8 @@ public final class TailorTape {
 
         /** How much longer than the CUT a MEASURE is; below 0 if it is shorter. */
         int gapBehind(int person, int suit, int measure, int n) {
-            return measureBehind(person, measure, n) - cuts[suit * MEASURES + measure];
+            int before = owns[person * MEASURES + measure] - cuts[suit * MEASURES + measure];
+            return before + longerBehind(person, measure, n);
         }
 
         int showsBehind(int person, int suit, int n) {
@@ -740,13 +736,22 @@ public final class TailorTape {
             for (int d = 0; d < shop.deeds; d++) {
                 if (shop.doers[d] == person && !shop.isMended(d)) {
                     open[found] = d;
-                    for (int m = 0; m < MEASURES; m++) {
-                        gains[found * MEASURES + m] = shop.longerBy(d, m, n, false) - shop.longerBy(d, m, n, true);
-                    }
+                    findGains(found, n);
                     found++;
                 }
             }
             return found;
+        }
+
+        private void findGains(int index, int n) {
+            int deed = open[index];
+            int kind = shop.kinds[shop.doers[deed]];
+            int sort = shop.sorts[deed];
+            int left = shop.leftBehind(deed, n, false);
+            int leftMended = shop.leftBehind(deed, n, true);
+            for (int m = 0; m < MEASURES; m++) {
+                gains[index * MEASURES + m] = longer(kind, sort, m, left) - longer(kind, sort, m, leftMended);
+            }
         }
 
         /** From the set just below: the lowest bit of the new one comes, all that were below it go. */
@@ -806,27 +811,27 @@ public final class TailorTape {
             return far;
         }
 
+        void findFitting() {
+            for (int p = 0; p < shop.people; p++) {
+                fitting[p] = 0;
+                for (int s = 0; s < shop.suits; s++) {
+                    if (shop.fitsBehind(p, s, 0)) {
+                        fitting[p] |= 1 << s;
+                    }
+                }
+            }
+        }
+
         /** Fills most from the last PERSON back; mostDressed and suitOf read it. */
         void matchSuits() {
             for (int set = 0; set < SUIT_SETS; set++) {
                 most[shop.people * SUIT_SETS + set] = 0;
             }
             for (int p = shop.people - 1; p >= 0; p--) {
-                fitting[p] = suitsFitting(p);
                 for (int taken = 0; taken < SUIT_SETS; taken++) {
                     most[p * SUIT_SETS + taken] = mostFrom(p, taken);
                 }
             }
-        }
-
-        private int suitsFitting(int person) {
-            int set = 0;
-            for (int s = 0; s < shop.suits; s++) {
-                if (shop.fitsBehind(person, s, 0)) {
-                    set |= 1 << s;
-                }
-            }
-            return set;
         }
 
         private int mostFrom(int person, int taken) {

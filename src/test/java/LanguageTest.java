@@ -5,7 +5,9 @@ import java.lang.reflect.Modifier;
 import java.nio.file.Files;
 import java.nio.file.Path;
 import java.util.Arrays;
+import java.util.Map;
 import java.util.Set;
+import java.util.TreeMap;
 import java.util.TreeSet;
 import java.util.regex.Matcher;
 import java.util.regex.Pattern;
@@ -38,7 +40,9 @@ public final class LanguageTest {
         for (Class<?> inside : TailorTape.class.getDeclaredClasses()) {
             nested(inside);
         }
-        text(Files.readString(Path.of("src/main/java/TailorTape.java")));
+        String source = Files.readString(Path.of("src/main/java/TailorTape.java"));
+        text(source);
+        depth(source);
         System.out.println(wrong == 0 ? "LanguageTest: all rules are kept" : wrong + " rules are not kept");
         if (wrong != 0) {
             System.exit(1);
@@ -124,5 +128,40 @@ public final class LanguageTest {
             rule(!s.matches("( {4}| {8})\\}") || line - from <= 62 || from == 0, "a long method ends in line " + line);
             from = s.matches("( {4}| {8})\\}") ? 0 : from;
         }
+    }
+
+    /** By the text alone: who calls whom. Methods of one name count as one, so this sees rather too much. */
+    private static void depth(String source) {
+        Map<String, Set<String>> calls = new TreeMap<>();
+        String method = "";
+        for (String s : source.split("\n")) {
+            Matcher head = Pattern.compile("^(?: {4}| {8})(?:\\w+ )*\\w+(?:\\[\\])? (\\w+)\\(.*").matcher(s);
+            if (head.matches() && !s.contains("=") && !s.trim().startsWith("return")) {
+                method = head.group(1);
+                calls.putIfAbsent(method, new TreeSet<>());
+                continue;
+            }
+            Matcher call = Pattern.compile("\\b(\\w+)\\(").matcher(s);
+            while (call.find() && !method.isEmpty()) {
+                calls.get(method).add(call.group(1));
+            }
+        }
+        calls.values().forEach(called -> called.removeAll(Set.of("if", "for", "while", "switch")));
+        rule(calls.containsKey("wear") && calls.containsKey("readNumber"), "the calls can't be seen");
+        for (String name : calls.keySet()) {
+            int levels = levels(calls, name, 0);
+            rule(levels <= 8, name + " goes " + levels + " deep");
+        }
+    }
+
+    private static int levels(Map<String, Set<String>> calls, String name, int above) {
+        if (above > 30 || !calls.containsKey(name)) {
+            return 1;
+        }
+        int below = 0;
+        for (String called : calls.get(name)) {
+            below = Math.max(below, levels(calls, called, above + 1));
+        }
+        return 1 + below;
     }
 }
