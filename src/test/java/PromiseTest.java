@@ -795,6 +795,15 @@ public final class PromiseTest {
         due("one is mended already", x.wedding(0, 0, 0, 0), 2);
         due("the others", x.wedding(0, 0, 0, 1), 6);
         due("nothing changed", x.count(6), 8);
+        x.undo();
+        x.rule(1, 6);
+        due("one of three", x.wedding(0, 0, 0, 1), 8);
+        x.undo();
+        due("one less, and none to mend", x.wedding(0, 0, 0, 0), 0);
+        x.rule(1, 2);
+        due("what is no more can't be mended", x.wedding(0, 0, 0, 0), 2);
+        x.rule(1, 1);
+        due("nor here", x.wedding(0, 0, 0, 0), NONE);
         x.cut(0, 0, 60);
         due("too wide a suit can't be mended", x.wedding(0, 0, 99, 0), NONE);
         due("n 100", x.wedding(0, 0, 100, 0), BAD);
@@ -881,6 +890,10 @@ public final class PromiseTest {
         due("fewer come", tapes(x, "5;p50.50.50.50;90.90.90.90"), 1);
         due("and nothing fits", x.wear(NONE), 0);
         due("not one", x.wear(0), NONE);
+        due("two suits", tapes(x, "5;p50.50.50.50,p50.50.50.50;90.90.90.90,50.50.50.50"), 2);
+        due("one fits", x.wear(NONE), 1);
+        due("a suit less", tapes(x, "5;p50.50.50.50,p50.50.50.50;90.90.90.90"), 2);
+        due("none fits", x.wear(NONE), 0);
         x = new TailorTape();
         x.suit(50);
         for (int k = 0; k < 5; k++) {
