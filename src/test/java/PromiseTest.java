@@ -379,6 +379,7 @@ public final class PromiseTest {
         due("four suits", tapes(x, "1;h10.10.10.10;1.1.1.1,2.2.2.2,3.3.3.3,4.4.4.4"), 1);
         due("four", x.count(1), 4);
         due("the last one's cut", x.cut(3, 3, 0), 4);
+        x = new TailorTape();
         due("blanks", tapes(x, "  7 ; t 10 . 011 .12. 99 , p 20.20.20.20 ; 000 . 7.07.  007  "), 2);
         measures(x, 0, 10, 11, 12, 99);
         due("cut with noughts", x.cut(0, 3, 0), 7);
@@ -389,6 +390,7 @@ public final class PromiseTest {
         String head = "7;p10.10.10.10";
         due("a full tape to its last digit", tapes(x, head + " ".repeat(130 - 14 - tail.length()) + tail), 1);
         due("four suits of it", x.count(1), 4);
+        x = new TailorTape();
         due("a full tape with blanks behind", tapes(x, head + " ".repeat(130 - 14)), 1);
         due("what was behind is forgotten", tapes(x, "5"), -21);
         due("a full tape that lacks all", tapes(x, " ".repeat(130)), -150);
