@@ -87,6 +87,14 @@ abstract class Edges {
         return x;
     }
 
+    /** One whose sleeve is 51 today and 50 tomorrow, and a suit that fits without ease tomorrow alone. */
+    static TailorTape fadingTomorrow() {
+        TailorTape x = strict(PLAIN);
+        x.rule(0, 1);
+        x.does(0, THEFT, 1);
+        return x;
+    }
+
     /** Three people, two suits, four deeds, eight steps known; an image of earlier, half a tape, two sheets. */
     static TailorTape busy() {
         TailorTape x = new TailorTape();

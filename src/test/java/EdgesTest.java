@@ -141,6 +141,7 @@ public final class EdgesTest extends Edges {
             due("of(1, " + k + ")", x.of(1, k), tall[k]);
         }
         due("nobody's deeds", one(PLAIN).of(0, 9), 0);
+        due("now, not tomorrow", fadingTomorrow().of(0, 0), 51);
     }
 
     @Says("BAD.")
@@ -184,6 +185,8 @@ public final class EdgesTest extends Edges {
         due("fits by all its ease", x.tries(0, 0, 1), 1);
         x.rule(1, 7);
         due("no more", x.tries(0, 0, 1), 0);
+        due("shows today", fadingTomorrow().tries(0, 0, 0), 1);
+        due("fits tomorrow alone", fadingTomorrow().tries(0, 0, 1), 0);
     }
 
     @Says("BAD.")
@@ -607,6 +610,16 @@ public final class EdgesTest extends Edges {
         y.mend(1);
         due("all is", y.wedding(0, 0, 0, 1), 0);
         due("nothing is left to fill it", y.wedding(0, 0, 99, 0), NONE);
+        TailorTape two = strict(PLAIN);
+        two.person(PLAIN, 50);
+        two.does(0, THEFT, 9);
+        two.does(0, THEFT, 9);
+        two.does(1, LIE, 2);
+        two.cut(0, 0, 58);
+        due("both thefts of one", two.wedding(0, 0, 0, 1), 3);
+        two.cut(0, 0, 45);
+        two.cut(0, 2, 52);
+        due("the other one has none of them to mend", two.wedding(1, 0, 0, 0), NONE);
     }
 
     @Says("BAD.")
@@ -661,6 +674,12 @@ public final class EdgesTest extends Edges {
             due("the suit of " + p, most.wear(p), want[p]);
         }
         due("four", most.wear(NONE), 4);
+        due("what fits tomorrow alone is not worn", fadingTomorrow().wear(NONE), 0);
+        due("nor by whom it would fit", fadingTomorrow().wear(0), NONE);
+        due("two for a suit, where there were more", wardrobe(most, "5;p50.50.50.50,p50.50.50.50;50.50.50.50"), 2);
+        due("one", most.wear(NONE), 1);
+        due("the first has it", most.wear(0), 0);
+        due("the second has none", most.wear(1), NONE);
     }
 
     @Says("BAD.")
@@ -686,6 +705,10 @@ public final class EdgesTest extends Edges {
             due("above", x.luck(0, 0, 0), one[4]);
             due("below", x.luck(0, 0, 1), one[5]);
         }
+        TailorTape today = fadingTomorrow();
+        today.rule(1, 1);
+        due("today, above", today.luck(0, 0, 0), 2);
+        due("today, below", today.luck(0, 0, 1), 3);
     }
 
     @Says("BAD.")
@@ -706,6 +729,7 @@ public final class EdgesTest extends Edges {
         }
         due("all", x.warrant(1), 31);
         due("none", x.warrant(99), 0);
+        due("today, not tomorrow", fadingTomorrow().warrant(1), 1);
     }
 
     @Says("BAD.")
@@ -750,6 +774,7 @@ public final class EdgesTest extends Edges {
         y.image();
         due("the tape is no part of it", wardrobe(y, "x"), -20);
         alike("all as it was then", x, y);
+        othersDoneSince();
         TailorTape z = empty();
         z.image();
         z.person(PLAIN, 50);
@@ -759,6 +784,23 @@ public final class EdgesTest extends Edges {
         counts("empty", z, 0, 0, 0, 0, 5, 1, 0, 0, 0);
         due("as often as one likes", z.restore(), 1);
         due("nothing to undo", z.undo(), NONE);
+    }
+
+    /** Deeds done and undone behind the image lie where those of the image lay. */
+    private static void othersDoneSince() {
+        TailorTape x = busy();
+        due("image", x.image(), 1);
+        for (int k = 0; k < 8; k++) {
+            x.undo();
+        }
+        x.days(50);
+        for (int d = x.count(2); d < 10; d++) {
+            x.does(1, GREED, 1);
+        }
+        due("restore", x.restore(), 1);
+        TailorTape y = busy();
+        y.image();
+        alike("other deeds since", x, y);
     }
 
     @Says("NONE: there is none.")

@@ -595,6 +595,14 @@ public final class TermsTest extends Edges {
         due("fits but later", x.again(0, 0), 5);
         due("so not now", x.wear(0), NONE);
         due("the others", x.wear(4), 3);
+        TailorTape more = one(PLAIN);
+        more.person(PLAIN, 50);
+        for (int s = 0; s < 4; s++) {
+            more.suit(50);
+        }
+        due("more suits than people", more.wear(NONE), 2);
+        due("the first suit", more.wear(0), 0);
+        due("the second suit", more.wear(1), 1);
     }
 
     @Says("of like ones the first (PEOPLE in order; SUITS in order, none behind all):")
@@ -750,6 +758,13 @@ public final class TermsTest extends Edges {
         due("8 of 99", y.count(8), 8);
         y.drift(99);
         due("8 of 198", y.count(8), 8);
+        TailorTape z = full();
+        due("the latest mended of two", z.undo(), 7);
+        due("the other stays", z.count(6), 1 << 9);
+        due("that one", z.undo(), 6);
+        due("none is mended", z.count(6), 0);
+        due("the latest deed", z.undo(), 5);
+        due("nine stay", z.count(2), 9);
     }
 
     @Says("DEEDS, the DAY, THE DRAW are as ahead of it, whatever was told since;")
@@ -978,6 +993,9 @@ public final class TermsTest extends Edges {
         due("no second person", x.of(1, 0), BAD);
         due("no suit", x.cut(0, 0, 0), BAD);
         due("no deed", x.deed(0, 0), BAD);
+        due("one with suits", wardrobe(x, "30;w10.20.30.40;1.2.3.4"), 1);
+        due("one without", wardrobe(x, "30;w10.20.30.40"), 1);
+        due("no suit is left", x.count(1), 0);
         due("the next person", x.person(PLAIN, 50), 1);
         due("the next suit", x.suit(50), 0);
         due("the next deed", x.does(1, LIE, 1), 0);
