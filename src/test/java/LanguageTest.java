@@ -14,15 +14,10 @@ import java.util.regex.Pattern;
 
 /** The face that the document tells, and what of LANGUAGE.md's rules shows in the class or in its text. */
 public final class LanguageTest {
-    private static final String FACE = """
-            ahead(int,int,int) again(int,int) bestCut(int,int,int,int) copy(int,int,int,int,int) count(int)
-            cut(int,int,int) days(int) deed(int,int) does(int,int,int) done(int,int,int,int,int) drift(int) drop(int)
-            film(int,int,int,int,int,int) image() item(int,int,int,long) luck(int,int,int) mend(int) of(int,int)
-            own(int,int,int) person(int,int) restore() rule(int,int) seed(int) sheet(int,int,int) showsAhead(int,int,int)
-            suit(int) tries(int,int,int) type(int) undo() wardrobe() warrant(int) wear(int) wedding(int,int,int,int)
-            """;
-    private static final String CONSTANTS =
-            "BAD=-1 CAST=-12 FULL=-3 INDEX=-13 NONE=-4 NOT=-2 NULL=-11 SIZE=-14";
+    /** The document's own text of the face: what is public there must be public here, and nothing else. */
+    private static final Pattern FACE_BLOCK = Pattern.compile(
+            "(?s)## The public face\\s+```java\\s+(public final class TailorTape \\{.*?)```");
+    private static final Set<String> FACE = new TreeSet<>(), NAMES = new TreeSet<>(), CONSTANTS = new TreeSet<>();
     private static final String[] FORBIDDEN = {
         "\\bimport\\b", "\\bpackage\\b", "->", "::", "\\btry\\b", "\\bcatch\\b", "\\bfinally\\b", "\\bthrow",
         "\\bsynchronized\\b", "\\bassert\\b", "\\bObject\\b", "\\binstanceof\\b", "Exact\\(", "\\bdouble\\b",
@@ -34,6 +29,7 @@ public final class LanguageTest {
     }
 
     public static void main(String[] args) throws Exception {
+        readFace(Files.readString(Path.of("../shared/DOC.md")));
         face();
         constants();
         members();
@@ -56,6 +52,23 @@ public final class LanguageTest {
         }
     }
 
+    private static void readFace(String document) {
+        Matcher block = FACE_BLOCK.matcher(document);
+        String text = block.find() ? block.group(1) : "";
+        Matcher call = Pattern.compile("public int (\\w+)\\((.*?)\\);").matcher(text);
+        while (call.find()) {
+            NAMES.add(call.group(1));
+            FACE.add(call.group(1) + "(" + call.group(2).replaceAll("(int|long) \\w+", "$1").replace(" ", "") + ")");
+        }
+        Matcher constants = Pattern.compile("public static final int (.*?);").matcher(text);
+        while (constants.find()) {
+            CONSTANTS.addAll(Arrays.asList(constants.group(1).replace(" ", "").split(",")));
+        }
+        rule(FACE.size() == 33 && NAMES.size() == 33, "the document's calls are " + FACE);
+        rule(CONSTANTS.size() == 8, "the document's constants are " + CONSTANTS);
+        rule(text.contains("public TailorTape();"), "the document's constructor can't be seen");
+    }
+
     private static void face() {
         Set<String> got = new TreeSet<>();
         for (Method m : TailorTape.class.getDeclaredMethods()) {
@@ -65,8 +78,7 @@ public final class LanguageTest {
                 got.add(m.getName() + "(" + types.substring(1, types.length() - 1).replace(" ", "") + ")");
             }
         }
-        Set<String> want = new TreeSet<>(Arrays.asList(FACE.trim().split("\\s+")));
-        rule(want.size() == 33 && got.equals(want), "the face is " + got);
+        rule(got.equals(FACE), "the face is " + got);
     }
 
     private static void constants() throws IllegalAccessException {
@@ -76,7 +88,7 @@ public final class LanguageTest {
                     f + " is no constant");
             got.add(f.getName() + "=" + f.getInt(null));
         }
-        rule(String.join(" ", got).equals(CONSTANTS), "the constants are " + got);
+        rule(got.equals(CONSTANTS), "the constants are " + got);
     }
 
     private static void members() {
@@ -95,7 +107,7 @@ public final class LanguageTest {
         for (Method m : of.getDeclaredMethods()) {
             boolean isFace = of == TailorTape.class && Modifier.isPublic(m.getModifiers());
             rule(isFace || of != TailorTape.class || Modifier.isPrivate(m.getModifiers()), m + " can be seen");
-            rule(isFace || !FACE.matches("(?s)(.*\\s)?" + m.getName() + "\\(.*"), m + " bears a public name");
+            rule(isFace || !NAMES.contains(m.getName()), m + " bears a public name");
             rule(m.getParameterCount() <= 7, m + " takes too much");
         }
     }

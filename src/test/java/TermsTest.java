@@ -6,7 +6,7 @@ public final class TermsTest extends Edges {
     }
 
     public static void main(String[] args) throws Exception {
-        run(TermsTest.class, "Terms");
+        run(TermsTest.class, "What it is", "Terms");
     }
 
     // ---- what it is
@@ -22,6 +22,91 @@ public final class TermsTest extends Edges {
             due("call " + (502 + k), x.does(0, TREASON, 9), k);
         }
         due("call 512", x.of(0, 1), 189);
+    }
+
+    @Says("The tailor takes the measure of it: in this town guilt shows on the tape, a sleeve longer by so much for each "
+            + "wrong, so coats are warrants and an old suit is an alibi;")
+    static void whatItIsGuiltOnTheTape() {
+        TailorTape x = strict(PLAIN);
+        x.person(PLAIN, 50);
+        x.does(0, THEFT, 4);
+        due("a wrong", x.of(0, 0), 54);
+        x.does(0, BLOW, 3);
+        due("another one", x.of(0, 0), 57);
+        due("a warrant", x.warrant(7), 1);
+        due("no alibi", x.tries(0, 0, 1), 0);
+        due("an alibi", x.tries(1, 0, 1), 1);
+    }
+
+    @Says("people of kinds by what lengthens what on them, deeds that fade, mended ones, suits by their cut;")
+    static void whatItIsPeopleDeedsSuits() {
+        TailorTape x = new TailorTape();
+        int[][] longer = {{54, 54, 54, 54}, {55, 55, 55, 55}, {50, 58, 54, 54}, {53, 53, 53, 53}, {50, 54, 52, 52}};
+        for (int kind = PLAIN; kind <= SAINT; kind++) {
+            x.person(kind, 50);
+            x.does(kind, TREASON, 4);
+            measures("kind " + kind, x, kind, longer[kind]);
+        }
+        due("they fade", x.days(5), 5 * 3);
+        due("a mended one", x.mend(PLAIN), 1);
+        measures("mended", x, PLAIN, 51, 51, 51, 51);
+        x.suit(51);
+        due("a suit by its cut", x.tries(PLAIN, 0, 0), 0);
+        x.cut(0, 3, 60);
+        due("by another cut", x.tries(PLAIN, 0, 0), 9);
+    }
+
+    @Says("day by day, by draws of deeds, undone;")
+    static void whatItIsDayByDay() {
+        TailorTape x = one(PLAIN);
+        x.person(PLAIN, 50);
+        x.days(1);
+        x.seed(2);
+        // 59559187, 1495354192, 671064393; by 65536: 908, 22817, 10239, of which by 3 the last alone leaves 0
+        due("a draw on the third day", x.drift(3), 1);
+        int[] want = {1, SLOTH, 2, 3, 0, 2};
+        for (int k = 0; k < want.length; k++) {
+            due("deed(0, " + k + ")", x.deed(0, k), want[k]);
+        }
+        due("undone", x.undo(), 3);
+        counts("a day less, its deed too", x, 2, 0, 0, 3);
+        due("its draw too", x.seed(0), 1495354192);
+    }
+
+    @Says({"how long what is when, what shows on whom, when a suit fits again;",
+        "the fewest deeds to mend so that one fits for a wedding, the cut that shows least till then;"})
+    static void whatItIsForetold() {
+        TailorTape x = strict(PLAIN);
+        x.rule(0, 2);
+        x.does(0, THEFT, 2);
+        x.does(0, THEFT, 4);
+        due("how long", x.ahead(0, 0, 3), 54);
+        due("what shows", x.showsAhead(0, 0, 5), 2);
+        due("again", x.again(0, 0), 8);
+        due("for a wedding, how many", x.wedding(0, 0, 6, 0), 1);
+        due("for a wedding, which", x.wedding(0, 0, 6, 1), 2);
+        // 56, 56, 54, 54, 52, 52, 51
+        due("the cut till then", x.bestCut(0, 0, 6, 0), 54);
+        due("shows least", x.bestCut(0, 0, 6, 1), 2 + 2 + 0 + 0 + 2 + 2 + 3);
+    }
+
+    @Says({"who should wear what;", "what one has done, by how much longer all is;", "how likely it fits, if the tape errs;",
+        "wardrobes as texts; images; sheets that may be missing."})
+    static void whatItIsAllElse() {
+        TailorTape x = new TailorTape();
+        due("a text", wardrobe(x, "5;p50.50.50.50,p52.52.52.52;51.51.51.51,50.50.50.50"), 2);
+        due("an image", x.image(), 1);
+        due("who should wear", x.wear(0), 1);
+        due("what", x.wear(1), 0);
+        due("how likely, above", x.luck(0, 0, 0), 16);
+        due("how likely, below", x.luck(0, 0, 1), 81);
+        due("a sheet that is missing", x.done(0, 0, 0, 0, 0), NULL);
+        x.sheet(0, 0, 4);
+        row(x, 0, 0, 3, 3, 6, 3);
+        due("a treason and a lie of 3", x.done(0, 0, 0, 0, 1), 300 + 32 + 1);
+        x.suit(99);
+        due("as it was", x.restore(), 1);
+        due("two suits", x.count(1), 2);
     }
 
     // ---- answers
